@@ -22,7 +22,7 @@ public final class FaceTest {
         "int alive()", "int lookup(int,int)");
 
     private static final List<String> RULED_OUT = List.of(
-        "import ", "package ", "->", "::", "throw", "try", "finally", "synchronized", "assert", "static {",
+        "import ", "package ", "->", "::", "throw ", "try {", "finally {", "synchronized", "assert ", "static {",
         "System.", "Math.", "new Object", "var ");
 
     public static void main(String[] args) throws IOException {
