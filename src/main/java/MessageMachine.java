@@ -70,11 +70,10 @@ public final class MessageMachine {
         if (!isHandle(h) || !isHandle(s) || size < 0 || size > GREATEST_SIZE) {
             return BAD;
         }
-        int superclass = memory.register(s);
-        if (superclass != NIL && !memory.isClass(superclass)) {
+        if (!memory.isClassOrNil(memory.register(s))) {
             return BAD;
         }
-        int made = memory.newClass(superclass, size);
+        int made = memory.newClass(memory.register(s), size);
         if (made == BAD) {
             return BAD;
         }
@@ -158,7 +157,7 @@ public final class MessageMachine {
         }
         int below = memory.register(c);
         int above = memory.register(s);
-        if (below < FIRST_MORTAL || above != NIL && !memory.isClass(above) || memory.isAmongSuperclasses(below, above)) {
+        if (below < FIRST_MORTAL || !memory.isClassOrNil(above) || memory.isAmongSuperclasses(below, above)) {
             return false;
         }
         memory.setField(below, SUPERCLASS, above);
@@ -323,6 +322,10 @@ public final class MessageMachine {
 
         boolean isClass(int word) {
             return isAlive(word) && classes[word];
+        }
+
+        boolean isClassOrNil(int word) {
+            return word == NIL || isClass(word);
         }
 
         boolean isContext(int word) {
