@@ -633,7 +633,7 @@ public final class ModelTest {
             bytes[i] = below(60) == 0 ? below(256) : likelyByte(depth);
             depth = depthBehind(depth, bytes[i]);
         }
-        boolean got = machine.method(c, s, Checks.half(bytes, 0), Checks.half(bytes, 8));
+        boolean got = machine.method(c, s, Machines.half(bytes, 0), Machines.half(bytes, 8));
         return same("method " + c + " " + s + " " + java.util.Arrays.toString(bytes), got, model.method(c, s, bytes));
     }
 
