@@ -56,6 +56,7 @@ public final class BytesTest {
         returnToSender();
         returnToNone();
         instance();
+        instanceWithAnOldNumber();
         instanceOther();
         instanceOfNoClass();
         instanceWithoutRoom();
@@ -790,6 +791,20 @@ public final class BytesTest {
         done(m, 0x2B, 0xC0, 0x2C, 0xC0);
         C.due("of class 2", m.classOf(CONTEXT + 1), 2);
         C.due("of class 1", m.classOf(CONTEXT + 2), 1);
+    }
+
+    private static void instanceWithAnOldNumber() {
+        C.sentence("12: with nil in all fields (where another was before)");
+        MessageMachine m = prepared();
+        m.make(3, 5);
+        m.store(3, 0, 4);
+        m.store(3, 1, 5);
+        started(m, 0x29, 0xC0);
+        m.drop(3);
+        C.due("bytes done", m.run(2), 2);
+        C.due("the number again", m.field(CONTEXT + 1, 9), CONTEXT);
+        C.due("field 0", m.field(CONTEXT, 0), 0);
+        C.due("field 1", m.field(CONTEXT, 1), 0);
     }
 
     private static void instanceOther() {

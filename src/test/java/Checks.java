@@ -13,7 +13,7 @@ final class Checks {
     private int looked = 0;
     private int wrong = 0;
 
-    /** What follows tests this sentence of the document, quoted in its own words. */
+    /** What follows tests this sentence of the document, told in its words; brackets behind it say which part. */
     void sentence(String quoted) {
         sentence = quoted;
         sentences++;

@@ -1,3 +1,4 @@
+import java.util.function.Predicate;
 import java.util.function.Supplier;
 
 /** Room, counts, steps and sweeping: which objects are given back, which stick, and when. */
@@ -29,6 +30,8 @@ public final class CountsTest {
         givenBackBeforeSticking();
         stuckAtTheVeryBeginning();
         sixOrMore();
+        stuckByCalls();
+        stuckBySends();
         stuckByBytes();
         stuckFromThenOn();
         stuckOnesHold();
@@ -60,6 +63,17 @@ public final class CountsTest {
         for (int h = 0; h < handles; h++) {
             m.move(h, 1);
         }
+        return m;
+    }
+
+    /** Handles 0 to 3 hold instance 5, and so does field 0 of instance 6, which handle 5 holds. */
+    private static MessageMachine heldByFive() {
+        MessageMachine m = withInstance();
+        m.make(5, 0);
+        m.store(5, 0, 1);
+        m.move(0, 1);
+        m.move(2, 1);
+        m.move(3, 1);
         return m;
     }
 
@@ -409,13 +423,8 @@ public final class CountsTest {
 
     private static void givenBackBeforeSticking() {
         C.sentence("Then every object that 6 or more hold is stuck");
-        // Object 6 holds 5; as handle 5 gets 5 in its stead, six would hold 5 if 6 were not given back before.
-        MessageMachine m = withInstance();
-        m.make(5, 0);
-        m.store(5, 0, 1);
-        m.move(0, 1);
-        m.move(2, 1);
-        m.move(3, 1);
+        // As handle 5 gets 5 instead of 6, six would hold 5 if 6, which holds it, too, were not given back before.
+        MessageMachine m = heldByFive();
         C.due("four handles and a field", m.count(5), 5);
         m.move(5, 1);
         C.due("object 6 is gone", m.classOf(6), BAD);
@@ -463,6 +472,60 @@ public final class CountsTest {
         dropAll(m);
         C.due("stuck", m.classOf(4), 1);
         C.due("the instances are not", m.alive(), 5);
+    }
+
+    /** Handle 0 holds class 4, and so do four others, classes below it or its instances, in handles 1 to 4. */
+    private static MessageMachine classHeldByFive(boolean byClasses) {
+        MessageMachine m = new MessageMachine();
+        m.define(0, 5, 1);
+        for (int h = 1; h < 5; h++) {
+            if (byClasses) {
+                m.define(h, 0, 0);
+            } else {
+                m.make(h, 0);
+            }
+        }
+        return m;
+    }
+
+    private static void sticks(String what, MessageMachine m, int o, Predicate<MessageMachine> call) {
+        C.due(what + ": five before", m.count(o), 5);
+        C.yes(what, call.test(m));
+        C.due(what + ": six", m.count(o), 6);
+        m.abort();
+        dropAll(m);
+        C.due(what + ": stuck", m.count(o), 6);
+    }
+
+    private static void stuckByCalls() {
+        C.sentence("every object that 6 or more hold is stuck (by calls)");
+        sticks("move", heldByFive(), 5, m -> m.move(4, 0));
+        sticks("store", heldByFive(), 5, m -> m.store(5, 1, 0));
+        sticks("fetch", heldByFive(), 5, m -> m.fetch(4, 5, 0));
+        sticks("kind", classHeldByFive(false), 4, m -> m.kind(5, 1));
+        sticks("make", classHeldByFive(false), 4, m -> m.make(5, 0) == 9);
+        sticks("define", classHeldByFive(true), 4, m -> m.define(5, 0, 0) == 9);
+        MessageMachine six = classHeldByFive(true);
+        six.define(5, 1, 0);
+        sticks("inherit", six, 4, m -> m.inherit(5, 0));
+    }
+
+    private static void stuckBySends() {
+        C.sentence("every object that 6 or more hold is stuck (by sends)");
+        MessageMachine asReceiver = heldByFive();
+        asReceiver.kind(4, 0);
+        Machines.code(asReceiver, 4, 0, 0xB1);
+        sticks("a receiver", asReceiver, 5, m -> m.send(1, 0));
+        MessageMachine asClass = classHeldByFive(false);
+        Machines.code(asClass, 0, 0, 0xB1);
+        sticks("a class in which it was found", asClass, 4, m -> m.send(1, 0));
+        MessageMachine asArgument = heldByFive();
+        asArgument.kind(4, 0);
+        Machines.code(asArgument, 4, 1, 0xB1);
+        asArgument.move(4, 5);
+        asArgument.move(0, 5);
+        asArgument.store(5, 1, 1);
+        sticks("an argument", asArgument, 5, m -> m.send(0, 1));
     }
 
     private static void stuckByBytes() {

@@ -34,6 +34,7 @@ public final class TermsTest {
         namedTwiceStore();
         conditions();
         contextFields();
+        newContextFields();
         noSender();
         placeAndSelectorAreNumbers();
         placeSixteen();
@@ -467,6 +468,24 @@ public final class TermsTest {
         C.due("class", m.classOf(9), 3);
         C.due("stack of the active one", m.stack(9), 2);
         C.due("stack of its sender", m.stack(8), 1);
+    }
+
+    private static void newContextFields() {
+        C.sentence("Fields above the stack's top are nil (of a new context with an old number)");
+        MessageMachine m = Machines.idle();
+        Machines.code(m, 0, 5, 0x28, 0x32, 0x28, 0x33, 0x28, 0x28, 0x28, 0x28, 0x28, 0x28);
+        m.send(2, 5);
+        C.due("bytes done", m.run(10), 10);
+        for (int k = 5; k < 15; k++) {
+            C.yes("field " + k + " of the old one", m.field(8, k) != 0);
+        }
+        m.abort();
+        m.send(2, 0);
+        C.due("the number again", m.active(), 8);
+        C.due("an empty stack", m.stack(8), 0);
+        for (int k = 5; k < 15; k++) {
+            C.due("field " + k + " of the new one", m.field(8, k), 0);
+        }
     }
 
     private static void noSender() {
