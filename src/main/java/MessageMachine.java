@@ -317,7 +317,7 @@ public final class MessageMachine {
         }
 
         boolean isAlive(int o) {
-            return isObject(o) && living[o];
+            return o >= 0 && o < OBJECTS && living[o];
         }
 
         boolean isClass(int word) {
