@@ -629,12 +629,40 @@ public final class ModelTest {
     private boolean newMethod(int c, int s) {
         int[] bytes = new int[16];
         int depth = 0;
+        int style = below(4);
         for (int i = 0; i < 16; i++) {
-            bytes[i] = below(60) == 0 ? below(256) : likelyByte(depth);
+            int likely = style == 0 ? sumsByte(depth, i) : style == 1 ? buildersByte(depth, i) : likelyByte(depth);
+            bytes[i] = below(60) == 0 ? below(256) : likely;
             depth = depthBehind(depth, bytes[i]);
         }
         boolean got = machine.method(c, s, Machines.half(bytes, 0), Machines.half(bytes, 8));
         return same("method " + c + " " + s + " " + java.util.Arrays.toString(bytes), got, model.method(c, s, bytes));
+    }
+
+    /** Of methods that calculate, and jump to and fro. */
+    private int sumsByte(int depth, int place) {
+        int dice = below(12);
+        if (depth == 0 || dice < 4 && depth < 5) {
+            return below(12) == 0 ? 0x2A + below(6) : 0x21 + below(7);
+        }
+        if (depth > 1 && dice < 9) {
+            return below(8) == 0 ? 0x73 + below(2) : 0x70 + below(3);
+        }
+        int[] others = {0x80 + below(3), 0x90 + below(3), 0xA0 + below(place + 1), 0xD0, 0xD0};
+        return others[below(others.length)];
+    }
+
+    /** Of methods that make instances, put them into fields and temporaries, and send on. */
+    private int buildersByte(int depth, int place) {
+        int dice = below(12);
+        if (depth == 0 || dice < 3 && depth < 5) {
+            return below(2) == 0 ? 0x29 : below(2) == 0 ? 0x28 : below(2) == 0 ? 0x10 + below(2) : below(4);
+        }
+        if (dice < 6) {
+            return 0xC0;
+        }
+        int[] others = {0x30 + below(4), 0x40 + below(2), 0x40, 0x50, 0x53, 0x60, 0xA0 + below(place + 1), 0xD0, 0xD1, 0xB0};
+        return others[below(others.length)];
     }
 
     private int likelyByte(int depth) {
